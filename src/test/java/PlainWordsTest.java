@@ -51,6 +51,14 @@ public final class PlainWordsTest {
             return new Plain(c, e, (e * e - discriminant()) / (4 * c));
         }
 
+        Plain firstReduced() {
+            Plain at = this;
+            while (!at.reduced()) {
+                at = at.next();
+            }
+            return at;
+        }
+
         boolean canBeTaken() {
             if (Math.max(Math.abs(a), Math.max(Math.abs(b), Math.abs(c))) > EDGE) {
                 return false;
@@ -281,7 +289,7 @@ public final class PlainWordsTest {
             Plain far = behindName;
             for (int n = 0; n < 200; n++) {
                 Plain moved = movedAbout(behindName, random);
-                if (new Facts(moved).reduced.equals(behindName) && Math.abs(moved.b()) > Math.abs(far.b())) {
+                if (moved.firstReduced().equals(behindName) && Math.abs(moved.b()) > Math.abs(far.b())) {
                     far = moved;
                 }
             }

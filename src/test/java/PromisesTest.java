@@ -114,6 +114,8 @@ public final class PromisesTest {
         dueTake(x, 536894083, EDGE, 536847742, 4632);
         dueTake(x, 536894083, -EDGE, 536847742, 4632);
         dueTake(x, -536894083, EDGE, -536847742, 4632);
+        dueTake(x, 1, 65540, EDGE, 524304);
+        dueTake(x, -EDGE, 65540, -1, 524304);
         dueTake(x, 536894078, EDGE, 536847747, -922088);
         dueForm(x, 0, 536894078, EDGE, 536847747);
     }
@@ -131,7 +133,10 @@ public final class PromisesTest {
             {1, 1, -EDGE - 1}, {Integer.MIN_VALUE, 0, 1}, {1, Integer.MIN_VALUE, 1}, {1, 0, Integer.MIN_VALUE},
             {Integer.MIN_VALUE, Integer.MIN_VALUE, Integer.MIN_VALUE},
             {Integer.MAX_VALUE, Integer.MAX_VALUE, Integer.MAX_VALUE},
-            {1073750018, 65537, 1}, {1, 65537, 1073750018},
+            // With one coefficient just beyond the edge, and a discriminant that is no fault.
+            {EDGE + 1, 65540, 1}, {1, 65540, EDGE + 1}, {-EDGE - 1, 65540, -1}, {-1, 65540, -EDGE - 1},
+            {536894084, EDGE + 1, 536847742}, {536894084, -EDGE - 1, 536847742},
+            {536894078, EDGE + 1, 536847748}, {536894078, -EDGE - 1, 536847748},
         };
         for (int[] f : refused) {
             dueTake(x, f[0], f[1], f[2], ARGUMENT);
