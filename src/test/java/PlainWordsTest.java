@@ -140,6 +140,29 @@ public final class PlainWordsTest {
         }
     }
 
+    /** An object that makes way for a new one, with the same form at hand, after its 512th call. */
+    private static final class Asked {
+        private FormRing x = new FormRing();
+        private Plain form = new Plain(1, 0, 1);
+        private int calls = 0;
+
+        FormRing again() {
+            if (calls >= 512) {
+                x = new FormRing();
+                x.take((int) form.a(), (int) form.b(), (int) form.c());
+                calls = 1;
+            }
+            calls++;
+            return x;
+        }
+
+        int take(Plain newForm) {
+            int answer = again().take((int) newForm.a(), (int) newForm.b(), (int) newForm.c());
+            form = newForm;
+            return answer;
+        }
+    }
+
     private static void due(Plain form, String call, long got, long want) {
         if (got != want) {
             wrong++;
@@ -147,8 +170,8 @@ public final class PlainWordsTest {
         }
     }
 
-    private static void compare(FormRing x, Plain form, Random random) {
-        due(form, "take", x.take((int) form.a(), (int) form.b(), (int) form.c()), form.discriminant());
+    private static void compare(Asked x, Plain form, Random random) {
+        due(form, "take", x.take(form), form.discriminant());
         Facts facts = new Facts(form);
         // Whether the matrix or the ring is asked for first must not matter.
         boolean matrixFirst = random.nextBoolean();
@@ -156,9 +179,9 @@ public final class PlainWordsTest {
             compareMatrix(x, facts, random);
         }
         for (int what = 0; what < 3; what++) {
-            due(form, "form 0", x.form(0, what), form.coefficient(what));
-            due(form, "form 1", x.form(1, what), facts.reduced.coefficient(what));
-            due(form, "form 2", x.form(2, what), facts.name.coefficient(what));
+            due(form, "form 0", x.again().form(0, what), form.coefficient(what));
+            due(form, "form 1", x.again().form(1, what), facts.reduced.coefficient(what));
+            due(form, "form 2", x.again().form(2, what), facts.name.coefficient(what));
         }
         compareCounts(x, facts);
         compareRing(x, facts, random);
@@ -167,7 +190,7 @@ public final class PlainWordsTest {
         }
     }
 
-    private static void compareCounts(FormRing x, Facts facts) {
+    private static void compareCounts(Asked x, Facts facts) {
         Plain form = facts.form;
         long d = form.discriminant();
         long root = d < 0 ? -1 : (long) Math.sqrt(d);
@@ -175,17 +198,17 @@ public final class PlainWordsTest {
                 .gcd(BigInteger.valueOf(form.c()));
         long[] want = {d, root, divisor.longValue(), facts.toReduced, facts.way, facts.ring.size()};
         for (int what = 0; what < want.length; what++) {
-            due(form, "count " + what, x.count(what), want[what]);
+            due(form, "count " + what, x.again().count(what), want[what]);
         }
     }
 
-    private static void compareRing(FormRing x, Facts facts, Random random) {
+    private static void compareRing(Asked x, Facts facts, Random random) {
         int size = facts.ring.size();
         for (int n = 0; n < 8; n++) {
             int k = n == 0 ? size - 1 : n == 1 ? 0 : random.nextInt(size);
             Plain want = facts.ring.get(k);
             for (int what = 0; what < 3; what++) {
-                due(facts.form, "ring " + k, x.ring(k, what), want.coefficient(what));
+                due(facts.form, "ring " + k, x.again().ring(k, what), want.coefficient(what));
             }
             Plain moved = movedAbout(want, random);
             due(facts.form, "together " + moved, asNumber(x, moved), 1);
@@ -198,32 +221,40 @@ public final class PlainWordsTest {
         }
     }
 
-    private static long asNumber(FormRing x, Plain f) {
-        return x.together((int) f.a(), (int) f.b(), (int) f.c()) ? 1 : 0;
+    private static long asNumber(Asked x, Plain f) {
+        return x.again().together((int) f.a(), (int) f.b(), (int) f.c()) ? 1 : 0;
     }
 
     private static long sameClass(Plain f, Facts facts) {
         return new Facts(f).name.equals(facts.name) ? 1 : 0;
     }
 
-    private static void compareMatrix(FormRing x, Facts facts, Random random) {
+    private static void compareMatrix(Asked x, Facts facts, Random random) {
         Plain form = facts.form;
         BigInteger[] matrix = facts.matrix();
         BigInteger unit = matrix[0].multiply(matrix[3]).subtract(matrix[1].multiply(matrix[2]));
         due(form, "the test's own determinant", unit.longValue(), 1);
+        due(form, "a of the test's own name, taken", value(facts.name, matrix[0], matrix[2]), form.a());
+        due(form, "c of the test's own name, taken", value(facts.name, matrix[1], matrix[3]), form.c());
         for (int i = 0; i < 4; i++) {
             BigInteger size = matrix[i].abs();
-            due(form, "sign " + i, x.sign(i), matrix[i].signum());
-            due(form, "bits " + i, x.bits(i), size.bitLength());
+            due(form, "sign " + i, x.again().sign(i), matrix[i].signum());
+            due(form, "bits " + i, x.again().bits(i), size.bitLength());
             for (int k = 0; k < size.bitLength() / 32 + 3; k++) {
-                due(form, "word " + i + " " + k, x.word(i, k), size.shiftRight(32 * k).mod(WORD).intValue());
+                due(form, "word " + i + " " + k, x.again().word(i, k), size.shiftRight(32 * k).mod(WORD).intValue());
             }
             for (int n = 0; n < 3; n++) {
                 int m = n == 0 ? Integer.MAX_VALUE : 1 + random.nextInt(n == 1 ? 10 : Integer.MAX_VALUE - 1);
-                due(form, "residue " + i + " " + m, x.residue(i, m),
+                due(form, "residue " + i + " " + m, x.again().residue(i, m),
                         matrix[i].mod(BigInteger.valueOf(m)).longValue());
             }
         }
+    }
+
+    private static long value(Plain f, BigInteger x, BigInteger y) {
+        return BigInteger.valueOf(f.a()).multiply(x).multiply(x)
+                .add(BigInteger.valueOf(f.b()).multiply(x).multiply(y))
+                .add(BigInteger.valueOf(f.c()).multiply(y).multiply(y)).longValueExact();
     }
 
     /** Another form of the same class, with coefficients that grow as far as they may. */
@@ -256,7 +287,7 @@ public final class PlainWordsTest {
 
     private static void randomForms(Random random) {
         for (int object = 0; object < 150; object++) {
-            FormRing x = new FormRing();
+            Asked x = new Asked();
             for (int n = 0; n < 5; n++) {
                 compare(x, movedAbout(anyForm(random), random), random);
             }
@@ -266,7 +297,7 @@ public final class PlainWordsTest {
     private static void everySmallForm(Random random) {
         for (int a = -6; a <= 6; a++) {
             for (int b = -8; b <= 8; b++) {
-                FormRing x = new FormRing();
+                Asked x = new Asked();
                 for (int c = -6; c <= 6; c++) {
                     Plain f = new Plain(a, b, c);
                     if (f.canBeTaken()) {
@@ -283,7 +314,7 @@ public final class PlainWordsTest {
         for (long d : discriminants) {
             long b = d % 4 == 0 ? 0 : 1;
             Facts facts = new Facts(new Plain(1, b, (b - d) / 4));
-            FormRing x = new FormRing();
+            Asked x = new Asked();
             Plain behindName = facts.name.next();
             compare(x, behindName, random);
             Plain far = behindName;
@@ -305,7 +336,7 @@ public final class PlainWordsTest {
             new Plain(-536847742, -EDGE, -536894083), new Plain(536894078, EDGE, 536847747),
             new Plain(1, 65540, EDGE), new Plain(EDGE, -65541, 1),
         };
-        FormRing x = new FormRing();
+        Asked x = new Asked();
         for (Plain f : forms) {
             compare(x, f, random);
         }
